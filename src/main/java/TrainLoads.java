@@ -186,10 +186,6 @@ public final class TrainLoads {
     }
 
     private int patternsOf(int what) {
-        // The difference is taken only behind this test, else a very low what would wrap round to a wagon.
-        if (what < FIRST_OF_PATTERNS) {
-            return NONE;
-        }
         int wagon = what - FIRST_OF_PATTERNS;
         return train.hasWagon(wagon) ? train.wagons[wagon].patternCount : NONE;
     }

@@ -91,7 +91,7 @@ public final class AskingTest {
         check.due("count: patterns of 0", x.count(10), 0);
         check.due("count: patterns of 1", x.count(11), 2);
         check.due("count: patterns of 2", x.count(12), -1);
-        // what - 10 would wrap round to a great number, and below 10 to a negative one.
+        // what - 10 wraps round to a great number here.
         check.due("count: least", x.count(Integer.MIN_VALUE), -1);
         check.due("count: 9", x.count(9), -1);
     }

@@ -16,6 +16,7 @@ public final class PlanTest {
         promise8RuleOnOneWagon();
         promise8RuleOfNeighbours();
         promise8RuleOfNeighboursOverWagonOut();
+        promise8RuleReachesOneWagon();
         promise9At();
         promise9Places();
         promise10Load();
@@ -186,6 +187,25 @@ public final class PlanTest {
         x.out(0, true);
         check.due("only neighbours are left", x.plan(), 4);
         dueWagons("only neighbours are left", x, 1, -1);
+    }
+
+    private static void promise8RuleReachesOneWagon() {
+        // Heights send box 0 to wagon 2 and box 1 to wagon 0: the rule of kind 3 with itself does not reach so far.
+        TrainLoads x = new TrainLoads();
+        x.wagon(4, 0, 1, 10);
+        x.pattern(0, 1);
+        x.wagon(4, 100, 1, 1);
+        x.pattern(1, 1);
+        x.wagon(8, 100, 1, 10);
+        x.pattern(2, 2);
+        x.box(2, 1, 10, 3, 0);
+        x.box(1, 0, 10, 3, 0);
+        x.rule(3, 3, 2);
+        check.due("rule over two wagons: length", x.plan(), 12);
+        dueWagons("rule over two wagons", x, 2, 0);
+        x.box(1, 0, 1, 3, 0);
+        check.due("rule from both sides: length", x.plan(), 12);
+        dueWagons("rule from both sides", x, 2, 0, -1);
     }
 
     private static void promise9At() {
