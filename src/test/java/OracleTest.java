@@ -6,7 +6,9 @@ public final class OracleTest {
     private static final int[] ODD = {-1, Integer.MIN_VALUE, Integer.MAX_VALUE, 0, 1, 2, 3, 4, 8, 9, 10, 31, 101};
     private static final long[] ODD_LONG = {-1, Long.MIN_VALUE, Long.MAX_VALUE, 1000001, 1000000001L, 1L << 32};
     private static final int SMALL_RUNS = 3000;
-    private static final int LARGE_RUNS = 150;
+    private static final int LARGE_RUNS = 200;
+    // What an object answers to later calls is free.
+    private static final int MOST_CALLS = 512;
     private static final Check check = new Check();
 
     private final Random random;
@@ -15,6 +17,7 @@ public final class OracleTest {
     private final Oracle oracle = new Oracle();
     // How many of a hundred numbers are odd ones.
     private final int odd;
+    private int calls = 0;
 
     private OracleTest(int seed, int odd) {
         random = new Random(seed);
@@ -61,7 +64,7 @@ public final class OracleTest {
         for (int box = 0; box < 9; box++) {
             tellBox();
         }
-        for (int round = 0; round < 3; round++) {
+        for (int round = 0; round < 2; round++) {
             tellRest();
             tellRest();
             same("plan", () -> real.plan(), () -> oracle.plan());
@@ -132,14 +135,47 @@ public final class OracleTest {
 
     private void askAll() {
         for (int number = -1; number <= 8; number++) {
-            for (int what = -1; what <= 8; what++) {
-                ask(number, what, number + what);
-            }
+            askBox(number);
+        }
+        for (int number = -1; number <= 3; number++) {
+            askWagon(number);
+        }
+        for (int what = -1; what <= 13; what++) {
+            int counted = what;
+            same("count " + what, () -> real.count(counted), () -> oracle.count(counted));
+        }
+    }
+
+    private void askBox(int box) {
+        same("standby " + box, () -> real.standby(box), () -> oracle.standby(box));
+        same("refused " + box, () -> real.refused(box), () -> oracle.refused(box));
+        for (int number = -1; number <= 2; number++) {
+            int what = number;
+            same("at " + box + " " + what, () -> real.at(box, what), () -> oracle.at(box, what));
+        }
+        for (int number = -1; number <= 8; number++) {
+            int other = number;
+            same("together " + box + " " + other,
+                () -> real.together(box, other) ? 1 : 0, () -> oracle.together(box, other) ? 1 : 0);
+        }
+    }
+
+    private void askWagon(int wagon) {
+        for (int number = -1; number <= 4; number++) {
+            int what = number;
+            same("load " + wagon + " " + what, () -> real.load(wagon, what), () -> oracle.load(wagon, what));
+        }
+        for (int number = -1; number <= 2; number++) {
+            int side = number;
+            same("axle " + wagon + " " + side, () -> real.axle(wagon, side), () -> oracle.axle(wagon, side));
         }
     }
 
     private void same(String call, LongSupplier got, LongSupplier want) {
-        check.dueText(name + call, Check.answer(got), Check.answer(want));
+        if (calls < MOST_CALLS) {
+            calls++;
+            check.dueText(name + call, Check.answer(got), Check.answer(want));
+        }
     }
 
     private int around(int bound) {
