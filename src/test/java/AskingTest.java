@@ -1,4 +1,4 @@
-/** Promises 13 to 15: what is asked without a plan too. Each method tests one sentence of the document. */
+/** Promises 13 to 15: what is asked without a plan too. Comments quote the sentence that a method tests. */
 public final class AskingTest {
     private static final Class<IndexOutOfBoundsException> INDEX = IndexOutOfBoundsException.class;
     private static final Check check = new Check();
@@ -13,6 +13,7 @@ public final class AskingTest {
     private static void refused() {
         refusedWithoutWagons();
         refusedByPattern();
+        refusedByAllPatterns();
         refusedByGauge();
         refusedByWeight();
         refusedForTheLeastReason();
@@ -49,6 +50,16 @@ public final class AskingTest {
             x.pattern(0, size == 2 ? 12 : 20 + size);
             check.due("refused: at last a pattern, size " + size, x.refused(0), 0);
         }
+    }
+
+    /** As many patterns as there may be, and the size in none of them, or in the last alone. */
+    private static void refusedByAllPatterns() {
+        TrainLoads x = Trains.of(2, 1, 2, 12, 21);
+        Trains.addSizes(x, 3);
+        check.due("refused: four patterns of other sizes", x.refused(0), 1);
+        TrainLoads y = Trains.of(1, 1, 2, 12, 213);
+        Trains.addSizes(y, 3);
+        check.due("refused: the fourth pattern has it", y.refused(0), 0);
     }
 
     /** Promise 13: "2 the gauge". */

@@ -84,7 +84,8 @@ public final class FaceTest {
                 String name = owner.getSimpleName() + "." + field.getName();
                 boolean isFace = owner == TrainLoads.class && field.getName().equals("NONE");
                 check.due(name + " is private", Modifier.isPrivate(kind), !isFace);
-                check.due(name + " is no static that changes", Modifier.isStatic(kind) && !Modifier.isFinal(kind), false);
+                check.due(name + " is no static that changes",
+                    Modifier.isStatic(kind) && !Modifier.isFinal(kind), false);
                 changing += Modifier.isStatic(kind) ? 0 : 1;
             }
             check.due(owner.getSimpleName() + " has at most twenty fields", changing <= 20, true);

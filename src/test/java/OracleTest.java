@@ -1,7 +1,7 @@
 import java.util.Random;
 import java.util.function.LongSupplier;
 
-/** Runs of chosen-at-random calls (always the same ones) on TrainLoads and on the oracle: every answer must be the same. */
+/** Runs of calls chosen at random, always the same ones: TrainLoads and the oracle must answer alike. */
 public final class OracleTest {
     private static final int[] ODD = {-1, Integer.MIN_VALUE, Integer.MAX_VALUE, 0, 1, 2, 3, 4, 8, 9, 10, 31, 101};
     private static final long[] ODD_LONG = {-1, Long.MIN_VALUE, Long.MAX_VALUE, 1000001, 1000000001L, 1L << 32};
@@ -101,7 +101,8 @@ public final class OracleTest {
         int danger = odd(random.nextInt(4));
         long booked = oddLong(random.nextInt(6));
         same("box " + size + " " + weight + " " + height + " " + danger + " " + booked,
-            () -> real.box(size, weight, height, danger, booked), () -> oracle.box(size, weight, height, danger, booked));
+            () -> real.box(size, weight, height, danger, booked),
+            () -> oracle.box(size, weight, height, danger, booked));
     }
 
     private void tellRest() {

@@ -1,7 +1,7 @@
 import java.util.Arrays;
 import java.util.NoSuchElementException;
 
-/** Promises 8 to 12: the plan and what is asked of it. Each method tests one sentence of the document. */
+/** Promises 8 to 12: the plan and what is asked of it. Comments quote the sentence that a method tests. */
 public final class PlanTest {
     private static final Class<IndexOutOfBoundsException> INDEX = IndexOutOfBoundsException.class;
     private static final Class<NoSuchElementException> ELEMENT = NoSuchElementException.class;
@@ -20,6 +20,7 @@ public final class PlanTest {
     private static void plan() {
         planOfNothing();
         planOfMostLength();
+        planOfOneMoreLength();
         planOfGreatestTrains();
         planByBooking();
         planByFirstThatDiffers();
@@ -66,6 +67,30 @@ public final class PlanTest {
         Trains.addDays(y, 5);
         check.due("three of 4 are more than 9", y.plan(), 12);
         dueWagons("three of 4 are more than 9", y, -1, 0, 0, 0);
+    }
+
+    /** Terms: "most length" comes before any number of boxes that are booked earlier. */
+    private static void planOfOneMoreLength() {
+        TrainLoads x = Trains.of(1, 11, 3);
+        Trains.addDays(x, 0, 0);
+        x.box(3, 1, 1, 0, 1);
+        check.due("9 is more than two of 4 booked before", x.plan(), 9);
+        dueWagons("9 is more than two of 4 booked before", x, -1, -1, 0);
+        TrainLoads y = Trains.of(1, 1111, 23);
+        Trains.addDays(y, 0, 0, 0, 0);
+        y.box(2, 1, 1, 0, 1);
+        y.box(3, 1, 1, 0, 1);
+        check.due("17 is more than four of 4 booked before", y.plan(), 17);
+        dueWagons("17 is more than four of 4 booked before", y, -1, -1, -1, -1, 0, 0);
+        TrainLoads z = Trains.of(1, 1111, 3);
+        z.wagon(30, 100, 1, 1);
+        z.pattern(1, 112);
+        z.pattern(1, 32);
+        Trains.addDays(z, 0, 0, 0, 0, 0, 0);
+        z.box(2, 1, 1, 0, 0);
+        z.box(3, 1, 1, 0, 1);
+        check.due("33 is more than 32, all booked before the last", z.plan(), 33);
+        dueWagons("33 is more than 32, all booked before the last", z, 0, 0, 0, 0, -1, -1, 1, 1);
     }
 
     /** As many boxes as there may be, all loaded. */

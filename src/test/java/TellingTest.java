@@ -3,7 +3,7 @@ import java.util.function.LongConsumer;
 import java.util.function.LongFunction;
 import java.util.function.LongSupplier;
 
-/** Promises 1 to 7: what is told, and what can't be told. Each method tests one sentence of the document. */
+/** Promises 1 to 7: what is told, and what can't be told. Comments quote the sentence that a method tests. */
 public final class TellingTest {
     private static final Class<IllegalArgumentException> ARGUMENT = IllegalArgumentException.class;
     private static final Class<IllegalStateException> STATE = IllegalStateException.class;
@@ -383,7 +383,8 @@ public final class TellingTest {
                 x.rule(a, b, 2);
                 for (int c = 0; c <= 3; c++) {
                     for (int d = c; d <= 3; d++) {
-                        check.due("rule of " + a + " and " + b + ": " + c + " and " + d, x.together(c, d), c != a || d != b);
+                        check.due("rule of " + a + " and " + b + ": " + c + " and " + d,
+                            x.together(c, d), c != a || d != b);
                     }
                 }
             }

@@ -1,6 +1,6 @@
 import java.util.Arrays;
 
-/** The Terms: order of booking, rules, loadings that may be, places. Each method tests one sentence of the document. */
+/** The Terms: order of booking, rules, loadings that may be, places. Comments quote the sentence that a method tests. */
 public final class TermsTest {
     private static final Check check = new Check();
 
@@ -110,6 +110,7 @@ public final class TermsTest {
         neighboursDifferByOne();
         neighboursWhetherOthersAreOut();
         neighboursOnBothSides();
+        neighboursNoFurther();
         kindWithItselfNeedsTwo();
         ruleHoldsForAllOnTheWagon();
         noDangerNoRule();
@@ -159,10 +160,12 @@ public final class TermsTest {
             x.rule(3, 3, 2);
             x.out(out, true);
             check.due("neighbours, " + out + " is out", x.plan(), out == 1 ? 8 : 4);
+            check.due("neighbours, " + out + " is out: the first one", x.at(0, 0), out == 0 ? 1 : 0);
+            check.due("neighbours, " + out + " is out: the second one", x.at(1, 0), out == 1 ? 2 : -1);
             x.out(out, false);
             check.due("neighbours, none is out", x.plan(), 8);
-            check.due("neighbours: the first one", x.at(0, 0), 0);
-            check.due("neighbours: the second one", x.at(1, 0), 2);
+            check.due("neighbours, none is out: the first one", x.at(0, 0), 0);
+            check.due("neighbours, none is out: the second one", x.at(1, 0), 2);
         }
     }
 
@@ -179,6 +182,25 @@ public final class TermsTest {
             check.due("neighbours, the other one on " + (danger == 1 ? 0 : 2), x.plan(), danger == 1 ? 8 : 9);
             x.rule(3, danger, 1);
             check.due("neighbours under rule 1", x.plan(), danger == 1 ? 12 : 17);
+        }
+    }
+
+    /** "numbers that differ by 1": two wagons apart is far enough, whichever of the two boxes has the lesser number. */
+    private static void neighboursNoFurther() {
+        for (int first = 0; first <= 2; first += 2) {
+            TrainLoads x = Trains.of(3);
+            x.pattern(0, 1);
+            x.pattern(1, 3);
+            x.pattern(2, 2);
+            x.box(first == 0 ? 1 : 2, 1, 1, 3, 0);
+            x.box(first == 0 ? 2 : 1, 1, 1, 3, 0);
+            x.rule(3, 3, 2);
+            check.due("two wagons apart: length", x.plan(), 12);
+            check.due("two wagons apart: box 0", x.at(0, 0), first);
+            check.due("two wagons apart: box 1", x.at(1, 0), 2 - first);
+            x.box(3, 1, 1, 3, 0);
+            check.due("one between them: length", x.plan(), 12);
+            check.due("one between them: it waits", x.at(2, 0), -1);
         }
     }
 
@@ -202,8 +224,7 @@ public final class TermsTest {
     private static void ruleHoldsForAllOnTheWagon() {
         for (int place = 0; place < 3; place++) {
             TrainLoads x = Trains.of(1, 1111);
-            int[] dangers = {0, 2, 0, 1};
-            dangers[1] = 0;
+            int[] dangers = {0, 0, 0, 1};
             dangers[place] = 2;
             Trains.addDangers(x, dangers);
             x.rule(1, 2, 1);

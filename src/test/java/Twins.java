@@ -3,7 +3,7 @@ import java.util.function.Consumer;
 import java.util.function.Supplier;
 import java.util.function.ToLongFunction;
 
-/** Two trains of the same making, of which one hears a call more: if that changed nothing, all goes on alike on both. */
+/** Two trains made alike, of which one hears a call more: if that changed nothing, all goes on alike on both. */
 final class Twins {
     /** What may follow; each brings something to light that the answers alone would hide. */
     private static final List<Consumer<TrainLoads>> SEQUELS = List.of(
