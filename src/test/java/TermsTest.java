@@ -1,6 +1,6 @@
 import java.util.Arrays;
 
-/** The Terms: order of booking, rules, loadings that may be, places. Comments quote the sentence that a method tests. */
+/** The Terms: order of booking, rules, loadings that may be, places. Comments quote the sentence that is tested. */
 public final class TermsTest {
     private static final Check check = new Check();
 
